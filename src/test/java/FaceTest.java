@@ -1,0 +1,135 @@
+import java.lang.reflect.Constructor;
+import java.lang.reflect.Field;
+import java.lang.reflect.Method;
+import java.lang.reflect.Modifier;
+import java.nio.file.Files;
+import java.nio.file.Path;
+import java.util.Set;
+import java.util.TreeSet;
+
+/** The class has the document's face and nothing else that is seen from outside. */
+public final class FaceTest {
+    private static final String[] FACE = {
+        "int addUser(int,int) IllegalArgumentException,IllegalStateException",
+        "int addPrinter(boolean,int,int) IllegalArgumentException,IllegalStateException",
+        "int addTray(int,char,int) IndexOutOfBoundsException,IllegalArgumentException,IllegalStateException",
+        "int trayCount(int) IndexOutOfBoundsException",
+        "int load(int,int,int) IndexOutOfBoundsException,IllegalArgumentException,IllegalStateException",
+        "char changePaper(int,int,char) IndexOutOfBoundsException,IllegalArgumentException,IllegalStateException",
+        "int sheetsIn(int,int) IndexOutOfBoundsException",
+        "char paperOf(int,int) IndexOutOfBoundsException",
+        "int setToner(int,boolean,int) IndexOutOfBoundsException,IllegalArgumentException,"
+            + "UnsupportedOperationException",
+        "int tonerOf(int,boolean) IndexOutOfBoundsException,UnsupportedOperationException",
+        "int setStaples(int,int) IndexOutOfBoundsException,IllegalArgumentException",
+        "int staplesIn(int) IndexOutOfBoundsException",
+        "int grant(int,boolean,int) IndexOutOfBoundsException,IllegalArgumentException,IllegalStateException",
+        "int quotaOf(int,boolean) IndexOutOfBoundsException",
+        "int setPrices(int,int,int) IllegalArgumentException",
+        "int submit(int,int,int,char,boolean,boolean) IndexOutOfBoundsException,IllegalArgumentException,"
+            + "IllegalStateException",
+        "boolean setStapled(int,boolean) IndexOutOfBoundsException",
+        "int cancel(int) IndexOutOfBoundsException,IllegalStateException",
+        "char stateOf(int) IndexOutOfBoundsException",
+        "int pagesLeft(int) IndexOutOfBoundsException",
+        "int sheetsOut(int) IndexOutOfBoundsException",
+        "int stapledCopies(int) IndexOutOfBoundsException",
+        "char reasonFor(int,int) IndexOutOfBoundsException",
+        "int wouldPrint(int,int) IndexOutOfBoundsException",
+        "int release(int,int) IndexOutOfBoundsException,UnsupportedOperationException",
+        "int releaseAll(int,int) IndexOutOfBoundsException",
+        "char stopOf(int) IndexOutOfBoundsException,NoSuchElementException",
+        "int bestPrinter(int) IndexOutOfBoundsException,NoSuchElementException",
+        "int queueLength(int) IndexOutOfBoundsException",
+        "int queueAt(int,int) IndexOutOfBoundsException,NoSuchElementException",
+        "int logSize() ",
+        "int logJob(int) IndexOutOfBoundsException",
+        "int logPrinter(int) IndexOutOfBoundsException",
+        "int logPages(int) IndexOutOfBoundsException",
+        "int logSheets(int) IndexOutOfBoundsException",
+        "int pagesOf(int) IndexOutOfBoundsException",
+        "int pagesByLog(int) IndexOutOfBoundsException",
+        "long billOf(int) IndexOutOfBoundsException",
+        "long billByLog(int) IndexOutOfBoundsException",
+        "double meanPages() ArithmeticException",
+        "float colourShare() ArithmeticException",
+        "boolean isConsistent() ",
+        "int writeJob(int) IndexOutOfBoundsException",
+        "char lineAt(int) IndexOutOfBoundsException",
+    };
+
+    private static final Check CHECK = new Check();
+
+    public static void main(String[] args) throws Exception {
+        methods();
+        otherMembers();
+        source();
+        CHECK.end("FaceTest");
+    }
+
+    private static void methods() {
+        Set<String> due = new TreeSet<>(Set.of(FACE));
+        Set<String> there = new TreeSet<>();
+        Set<String> publicNames = new TreeSet<>();
+        for (Method method : SpoolFarm.class.getDeclaredMethods()) {
+            if (!Modifier.isPrivate(method.getModifiers())) {
+                there.add(told(method));
+                publicNames.add(method.getName());
+                CHECK.same(method + " is public and nothing more", method.getModifiers(), Modifier.PUBLIC);
+            }
+        }
+        CHECK.sameText("the public methods", there.toString(), due.toString());
+        for (Method method : SpoolFarm.class.getDeclaredMethods()) {
+            if (Modifier.isPrivate(method.getModifiers())) {
+                CHECK.same(method + " bears a public name", publicNames.contains(method.getName()), false);
+            }
+        }
+    }
+
+    private static void otherMembers() {
+        CHECK.same("the class is public and final", SpoolFarm.class.getModifiers(),
+            Modifier.PUBLIC | Modifier.FINAL);
+        Constructor<?>[] makers = SpoolFarm.class.getDeclaredConstructors();
+        CHECK.same("constructors", makers.length, 1);
+        CHECK.same("the constructor is public", makers[0].getModifiers(), Modifier.PUBLIC);
+        CHECK.same("its parameters", makers[0].getParameterCount(), 0);
+        for (Field field : SpoolFarm.class.getDeclaredFields()) {
+            CHECK.same(field + " is private", Modifier.isPrivate(field.getModifiers()), true);
+        }
+        for (Class<?> inside : SpoolFarm.class.getDeclaredClasses()) {
+            CHECK.same(inside + " is static", Modifier.isStatic(inside.getModifiers()), true);
+            CHECK.same(inside + " is not seen from outside",
+                Modifier.isPublic(inside.getModifiers()) || Modifier.isProtected(inside.getModifiers()), false);
+        }
+    }
+
+    /** A few rules of LANGUAGE.md that a look at the text can hold. */
+    private static void source() throws Exception {
+        String text = Files.readString(Path.of("src/main/java/SpoolFarm.java"));
+        String[] barred = {"->", "::", "catch", "finally", " try {", "synchronized", "assert", "package ",
+            "Object", "System.out", "instanceof", ".equals", "HashMap", "random", "Exact"};
+        for (String word : barred) {
+            CHECK.same("the source has " + word, text.contains(word), false);
+        }
+        int imports = 0;
+        for (String line : text.split("\n")) {
+            imports += line.startsWith("import ") ? 1 : 0;
+        }
+        CHECK.same("imports", imports, 2);
+    }
+
+    private static String told(Method method) {
+        StringBuilder text = new StringBuilder();
+        text.append(method.getReturnType().getName()).append(' ').append(method.getName()).append('(');
+        text.append(names(method.getParameterTypes(), false)).append(") ");
+        return text.append(names(method.getExceptionTypes(), true)).toString();
+    }
+
+    private static String names(Class<?>[] types, boolean isShort) {
+        StringBuilder text = new StringBuilder();
+        for (Class<?> type : types) {
+            text.append(text.length() > 0 ? "," : "").append(isShort ? type.getSimpleName() : type.getName());
+        }
+        return text.toString();
+    }
+}
