@@ -60,8 +60,16 @@ final class Check {
         try {
             call.accept(farm);
         } catch (RuntimeException thrown) {
-            return thrown.getClass().getSimpleName();
+            return name(thrown);
         }
         return "nothing";
+    }
+
+    /** The exception's name; one that the library threw, and not the class itself, is told apart. */
+    static String name(Throwable thrown) {
+        String name = thrown.getClass().getSimpleName();
+        StackTraceElement[] trace = thrown.getStackTrace();
+        boolean isOwn = trace.length > 0 && trace[0].getClassName().startsWith("SpoolFarm");
+        return isOwn ? name : name + " of the library";
     }
 }

@@ -185,6 +185,13 @@ public final class JobsTest {
         farm.setStaples(0, 2);
         stapleOne(farm, 3, 4, true, 2);
         CHECK.same("no staple is left", farm.staplesIn(0), 0);
+        farm.setStaples(0, 9);
+        farm.setToner(0, false, 4);
+        int part = farm.submit(0, 3, 1, 'a', false, false);
+        farm.release(part, 0);
+        CHECK.same("a release ends within a copy", farm.pagesLeft(part), 1);
+        farm.setToner(0, false, 100);
+        stapleOne(farm, 1, 2, false, 0);
     }
 
     private static void stapleOne(SpoolFarm farm, int pages, int copies, boolean isDuplex, int due) {

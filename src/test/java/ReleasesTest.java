@@ -267,6 +267,13 @@ public final class ReleasesTest {
         farm.addPrinter(false, 1000, 0);
         farm.addTray(3, 'a', 500);
         CHECK.same("the third", farm.bestPrinter(0), 2);
+        farm.submit(0, 1, 1, 'a', false, false);
+        CHECK.same("of one page, the lowest", farm.bestPrinter(4), 0);
+        farm.setToner(0, false, 1);
+        farm.setToner(1, false, 2);
+        CHECK.same("one page of several", farm.bestPrinter(4), 1);
+        farm.setToner(1, false, 1);
+        CHECK.same("one page of several", farm.bestPrinter(4), 2);
         CHECK.refuses("a done job", NO_ELEMENT, ReleasesTest::farm, x -> x.bestPrinter(2));
         CHECK.refuses("a canceled job", NO_ELEMENT, ReleasesTest::farm, x -> x.bestPrinter(3));
     }
@@ -293,6 +300,10 @@ public final class ReleasesTest {
         farm.release(4, 1);
         CHECK.same("no toner is left for a sheet", farm.queueLength(1), 0);
         CHECK.refuses("queueAt of none", NO_ELEMENT, () -> farm, x -> x.queueAt(1, 0));
+        farm.setToner(1, false, 2);
+        farm.submit(0, 1, 1, 'a', false, false);
+        CHECK.same("one sheet ends it", farm.queueAt(1, 0), 8);
+        CHECK.same("one sheet of several", farm.queueAt(1, 1), 0);
     }
 
     private static void noSuchPlace() {

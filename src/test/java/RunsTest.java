@@ -71,7 +71,7 @@ public final class RunsTest {
         try {
             return String.valueOf(method.invoke(farm, boxed));
         } catch (InvocationTargetException thrown) {
-            return thrown.getCause().getClass().getSimpleName();
+            return Check.name(thrown.getCause());
         }
     }
 
