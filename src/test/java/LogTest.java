@@ -1,6 +1,3 @@
-import java.lang.reflect.Array;
-import java.lang.reflect.Field;
-
 /** Promises 32 to 45: log, bills and line. */
 public final class LogTest {
     private static final Class<IndexOutOfBoundsException> INDEX = IndexOutOfBoundsException.class;
@@ -8,14 +5,13 @@ public final class LogTest {
 
     private static final Check CHECK = new Check();
 
-    public static void main(String[] args) throws Exception {
+    public static void main(String[] args) {
         entries();
         kept();
         prices();
         means();
         noMeans();
         consistent();
-        inconsistent();
         lines();
         lineStays();
         noSuch();
@@ -117,7 +113,7 @@ public final class LogTest {
         return farm;
     }
 
-    // Promise 43
+    // Promise 43; that it can be false is in LogEdgesTest
     private static void consistent() {
         CHECK.same("a new object", new SpoolFarm().isConsistent(), true);
         CHECK.same("held jobs", held().isConsistent(), true);
@@ -128,31 +124,6 @@ public final class LogTest {
         CHECK.same("a part of a job", farm.isConsistent(), true);
         CHECK.same("cancel", farm.cancel(2) > 0, true);
         CHECK.same("a part of a canceled job", farm.isConsistent(), true);
-    }
-
-    /** No call can make the answer false, so what is kept is spoilt behind the calls' back. */
-    private static void inconsistent() throws Exception {
-        String[][] kept = {{"users", "pagesOut"}, {"users", "bill"}, {"jobs", "pagesOut"}};
-        for (String[] names : kept) {
-            for (int number = 0; number < 2; number++) {
-                SpoolFarm farm = farm();
-                spoil(farm, names[0], number, names[1]);
-                CHECK.same(names[1] + " of " + names[0] + " " + number + " spoilt", farm.isConsistent(), false);
-            }
-        }
-    }
-
-    private static void spoil(SpoolFarm farm, String row, int number, String name) throws Exception {
-        Field rowField = SpoolFarm.class.getDeclaredField(row);
-        rowField.setAccessible(true);
-        Object kept = Array.get(rowField.get(farm), number);
-        Field field = kept.getClass().getDeclaredField(name);
-        field.setAccessible(true);
-        if (field.getType() == long.class) {
-            field.setLong(kept, field.getLong(kept) + 1);
-        } else {
-            field.setInt(kept, field.getInt(kept) + 1);
-        }
     }
 
     // Promise 44
