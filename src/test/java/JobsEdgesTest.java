@@ -163,6 +163,10 @@ public final class JobsEdgesTest {
             x.releaseAll(0, 0);
             return x.stateOf(0);
         }, 'h');
+        for (int pages = 4; pages <= 12; pages += 4) {
+            EDGES.due("20 stateOf, whole copies, " + pages + " pages of 12", begun(pages), x -> x.stateOf(0),
+                pages == 12 ? 'd' : 'p');
+        }
         EDGES.due("20 stateOf, the only page", Farms.done(1), x -> x.stateOf(0), 'd');
         EDGES.due("20 stateOf, a refused cancel", Farms.done(1), x -> {
             Refusals.of(() -> x.cancel(0));

@@ -205,6 +205,8 @@ public final class LogEdgesTest {
         EDGES.due("41 meanPages, of many", Farms.logged(245), x -> x.meanPages(), 489.0 / 245.0);
         EDGES.due("41 meanPages, the most of one", Farms.after(Farms.job(100, 5, false, false), x -> x.release(0, 0)),
             x -> x.meanPages(), 500.0);
+        EDGES.due("41 meanPages, pages and not sheets", Farms.after(Farms.job(5, 1, false, true), x -> x.release(0, 0)),
+            x -> x.meanPages(), 5.0);
         EDGES.due("41 meanPages, by entries and not by jobs", Farms.after(Farms.job(3, 1, false, false), x -> {
             x.setToner(0, false, 2);
             x.release(0, 0);
@@ -264,6 +266,12 @@ public final class LogEdgesTest {
         EDGES.due("43 isConsistent, a part", Farms.logged(3), x -> x.isConsistent(), true);
         EDGES.due("43 isConsistent, a part canceled", Farms.after(Farms.logged(3), x -> x.cancel(0)),
             x -> x.isConsistent(), true);
+        EDGES.due("43 isConsistent, a part of a duplex job", Farms.after(Farms.job(5, 3, true, true), x -> {
+            x.setToner(0, false, 8);
+            x.release(0, 0);
+        }), x -> x.isConsistent(), true);
+        EDGES.due("43 isConsistent, a duplex job done", Farms.after(Farms.job(5, 3, false, true),
+            x -> x.release(0, 0)), x -> x.isConsistent(), true);
         EDGES.due("43 isConsistent, many entries", Farms.logged(245), x -> x.isConsistent(), true);
         EDGES.due("43 isConsistent, other prices since", Farms.after(Farms.logged(3), x -> x.setPrices(99, 99, 99)),
             x -> x.isConsistent(), true);
@@ -320,6 +328,10 @@ public final class LogEdgesTest {
         }), 0, "0: 9/10 a4");
         wrote("all pages out", Farms.after(Farms.job(10, 1, false, false), x -> x.release(0, 0)), 0, "0: 10/10 a4");
         wrote("a part of a canceled job", Farms.after(Farms.logged(3), x -> x.cancel(0)), 0, "0: 6/900 a4");
+        wrote("pages and not sheets out", Farms.after(Farms.job(5, 3, false, true), x -> {
+            x.setToner(0, false, 15);
+            x.release(0, 0);
+        }), 0, "0: 7/15 a4 duplex");
         wrote("the document's example", Farms.after(Farms.with(1, 1, 3), x -> {
             x.setToner(0, true, 15);
             x.submit(0, 4, 3, 'a', true, false);

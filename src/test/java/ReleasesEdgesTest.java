@@ -20,6 +20,7 @@ public final class ReleasesEdgesTest {
         bestPrinter();
         queueLength();
         queueAt();
+        queueOfOthersAlone();
         queueOrder();
         EDGES.end("ReleasesEdgesTest");
     }
@@ -590,6 +591,8 @@ public final class ReleasesEdgesTest {
             x.submit(0, 5, 1, 'a', false, true);
             x.setToner(0, false, 9);
         }), x -> x.bestPrinter(1), 1);
+        EDGES.due("29 bestPrinter, duplex, more pages of the second than sheets of the first",
+            Farms.after(sheets(4, 3), x -> x.submit(0, 9, 1, 'a', false, true)), x -> x.bestPrinter(1), 0);
         EDGES.due("29 bestPrinter, nothing comes out", sheets(3, 4), x -> {
             x.bestPrinter(0);
             return x.pagesLeft(0) * 100 + x.sheetsIn(1, 0);
@@ -639,6 +642,17 @@ public final class ReleasesEdgesTest {
         }, 330);
     }
 
+    private static void queueOfOthersAlone() {
+        for (int length : new int[] {1, 3, 40}) {
+            EDGES.numbers("31 queueAt, none would be done, position", Edges.NO_ELEMENT, length,
+                Farms.after(Farms.office(999, 1000, 9, 1), x -> {
+                    for (int job = 0; job < length; job++) {
+                        x.submit(0, 2, 1, 'a', false, false);
+                    }
+                }), (x, position) -> x.queueAt(0, position), position -> position);
+        }
+    }
+
     /** The queue of printer 0 as a text. */
     private static Object queue(SpoolFarm x) {
         StringBuilder text = new StringBuilder();
@@ -660,6 +674,9 @@ public final class ReleasesEdgesTest {
                 }
             });
             EDGES.due("31 the queue with " + sheets + " sheets", maker, ReleasesEdgesTest::queue, due[sheets]);
+            String order = due[sheets].replace(" ", "");
+            EDGES.numbers("31 queueAt, " + sheets + " sheets, position", Edges.NO_ELEMENT, order.length(), maker,
+                (x, position) -> x.queueAt(0, position), position -> order.charAt(position) - '0');
         }
         Supplier<SpoolFarm> users = Farms.after(Farms.office(2, 99, 9, 99), x -> {
             x.addUser(9, 9);
