@@ -28,6 +28,9 @@ final class Edges {
         Object on(SpoolFarm farm, int number);
     }
 
+    /** The names of the rows of all tests that were run, for SentencesTest. */
+    static final Set<String> NAMES = new HashSet<>();
+
     private final Set<String> rows = new HashSet<>();
     private int wrong = 0;
 
@@ -48,14 +51,39 @@ final class Edges {
             tell(row, "answered " + got + ", due is " + due.getSimpleName());
             return;
         }
+        compare(row, maker, call);
+    }
+
+    /** The one call is taken, and all other calls answer as without it. */
+    void unchanged(String row, Supplier<SpoolFarm> maker, Call call, Object due) {
+        due(row, maker, call, due);
+        compare(row, maker, call);
+    }
+
+    private void compare(String row, Supplier<SpoolFarm> maker, Call call) {
         for (Function<SpoolFarm, String> round : Answers.ROUNDS) {
-            SpoolFarm refusing = maker.get();
-            answer(() -> refusing, call);
-            String after = round.apply(refusing);
-            String without = round.apply(maker.get());
+            String after = looked(row, round, () -> {
+                SpoolFarm called = maker.get();
+                answer(() -> called, call);
+                return called;
+            });
+            String without = looked(row, round, maker);
             if (!after.equals(without)) {
                 tell(row, "changed something: \n  " + after + "\n  " + without);
             }
+            if (after.isEmpty() || without.isEmpty()) {
+                return;
+            }
+        }
+    }
+
+    /** A farm that can't be made or looked at fails its row alone, and not the rows behind it. */
+    private String looked(String row, Function<SpoolFarm, String> round, Supplier<SpoolFarm> maker) {
+        try {
+            return round.apply(maker.get()) + ";";
+        } catch (RuntimeException | AssertionError thrown) {
+            tell(row, "could not be looked at: " + thrown);
+            return "";
         }
     }
 
@@ -134,6 +162,7 @@ final class Edges {
     }
 
     private void begin(String row) {
+        NAMES.add(row);
         if (!rows.add(row)) {
             tell(row, "stands for two rows");
         }

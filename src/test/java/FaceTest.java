@@ -2,6 +2,8 @@ import java.lang.reflect.Constructor;
 import java.lang.reflect.Field;
 import java.lang.reflect.Method;
 import java.lang.reflect.Modifier;
+import java.nio.file.Files;
+import java.nio.file.Path;
 import java.util.Set;
 import java.util.TreeSet;
 
@@ -56,11 +58,21 @@ public final class FaceTest {
         "char lineAt(int) IndexOutOfBoundsException",
     };
 
+    /** The interface's lines, each with the first and the last of the calls that it stands ahead of. */
+    private static final String[][] SECTIONS = {
+        {"users, printers and trays", "addUser", "setPrices"},
+        {"jobs", "submit", "stapledCopies"},
+        {"releases", "reasonFor", "queueAt"},
+        {"log and bills", "logSize", "isConsistent"},
+        {"line", "writeJob", "lineAt"},
+    };
+
     private static final Check CHECK = new Check();
 
     public static void main(String[] args) throws Exception {
         methods();
         otherMembers();
+        sections();
         CHECK.end("FaceTest");
     }
 
@@ -97,6 +109,29 @@ public final class FaceTest {
             CHECK.same(inside + " is static", Modifier.isStatic(inside.getModifiers()), true);
             CHECK.same(inside + " is not seen from outside",
                 Modifier.isPublic(inside.getModifiers()) || Modifier.isProtected(inside.getModifiers()), false);
+        }
+    }
+
+    /** The calls stand in the document's order, under its lines. */
+    private static void sections() throws Exception {
+        String text = Files.readString(Path.of("src/main/java/SpoolFarm.java"));
+        int section = -1;
+        int before = 0;
+        for (String call : FACE) {
+            String name = call.substring(call.indexOf(' ') + 1, call.indexOf('('));
+            if (section + 1 < SECTIONS.length && name.equals(SECTIONS[section + 1][1])) {
+                section++;
+                int line = text.indexOf("    // ---- " + SECTIONS[section][0] + "\n");
+                CHECK.same("the line ahead of " + name, line > before, true);
+                before = line;
+            }
+            int place = text.indexOf(" " + name + "(", before);
+            CHECK.same(name + " in the document's order", place > before, true);
+            before = place;
+            if (section + 1 < SECTIONS.length && name.equals(SECTIONS[section][2])) {
+                int next = text.indexOf("    // ---- ", before);
+                CHECK.same("the line behind " + name, text.startsWith(SECTIONS[section + 1][0], next + 12), true);
+            }
         }
     }
 

@@ -1,6 +1,9 @@
 import java.util.function.Supplier;
 
-/** The section 'What it is': an object answers up to its 512th call. What it answers later is free. */
+/**
+ * The life of an object: it answers up to its 512th call (what it answers later is free), its log may
+ * hold more entries than that, and calls that only look change nothing.
+ */
 public final class LifeEdgesTest {
     private static final Edges EDGES = new Edges();
     private static final int CALLS = 512;
@@ -12,6 +15,8 @@ public final class LifeEdgesTest {
         lastCallOfLog();
         lastCallRefused();
         moreEntriesThanCalls();
+        whatOnlyLooks();
+        whatOnlyLooksAtTheLog();
         EDGES.end("LifeEdgesTest");
     }
 
@@ -158,5 +163,59 @@ public final class LifeEdgesTest {
         EDGES.due("41 meanPages, more entries than calls", often, x -> x.meanPages(), 1000.0 / 750.0);
         EDGES.due("42 colourShare, more entries than calls", often, x -> x.colourShare(), 0.25f);
         EDGES.due("43 isConsistent, more entries than calls", often, x -> x.isConsistent(), true);
+    }
+
+    /** Three users, two printers and four jobs: one done, one begun, one canceled and one held. */
+    private static SpoolFarm busy() {
+        SpoolFarm farm = Farms.with(3, 2, 4).get();
+        farm.setStapled(1, true);
+        farm.release(1, 1);
+        farm.setToner(0, false, 5);
+        farm.release(2, 0);
+        farm.cancel(3);
+        farm.setPrices(3, 4, 5);
+        farm.writeJob(2);
+        return farm;
+    }
+
+    private static void looks(String row, Edges.Call call, Object due) {
+        EDGES.unchanged(row + " changes nothing", LifeEdgesTest::busy, call, due);
+    }
+
+    private static void whatOnlyLooks() {
+        looks("5 trayCount", x -> x.trayCount(1), 3);
+        looks("8 sheetsIn", x -> x.sheetsIn(0, 0), 28);
+        looks("9 paperOf", x -> x.paperOf(0, 1), 'b');
+        looks("11 tonerOf", x -> x.tonerOf(0, false), 1);
+        looks("13 staplesIn", x -> x.staplesIn(1), 20);
+        looks("15 quotaOf", x -> x.quotaOf(0, false), 96);
+        looks("20 stateOf", x -> x.stateOf(2), 'p');
+        looks("21 pagesLeft", x -> x.pagesLeft(3), 4);
+        looks("22 sheetsOut", x -> x.sheetsOut(2), 2);
+        looks("23 stapledCopies", x -> x.stapledCopies(1), 1);
+        looks("24 reasonFor", x -> x.reasonFor(0, 1), '-');
+        looks("24 reasonFor, a reason", x -> x.reasonFor(0, 0), 't');
+        looks("25 wouldPrint", x -> x.wouldPrint(2, 1), 1);
+        looks("25 wouldPrint, a reason", x -> x.wouldPrint(3, 0), 0);
+        looks("28 stopOf", x -> x.stopOf(2), 't');
+        looks("29 bestPrinter", x -> x.bestPrinter(2), 1);
+        looks("30 queueLength", x -> x.queueLength(1), 2);
+        looks("31 queueAt", x -> x.queueAt(1, 1), 2);
+        looks("45 lineAt", x -> x.lineAt(3), '2');
+    }
+
+    private static void whatOnlyLooksAtTheLog() {
+        looks("32 logSize", x -> x.logSize(), 2);
+        looks("33 logJob", x -> x.logJob(1), 2);
+        looks("34 logPrinter", x -> x.logPrinter(0), 1);
+        looks("35 logPages", x -> x.logPages(1), 2);
+        looks("36 logSheets", x -> x.logSheets(0), 2);
+        looks("37 pagesOf", x -> x.pagesOf(0), 4);
+        looks("38 pagesByLog", x -> x.pagesByLog(0), 4);
+        looks("39 billOf", x -> x.billOf(0), 12L);
+        looks("40 billByLog", x -> x.billByLog(0), 12L);
+        looks("41 meanPages", x -> x.meanPages(), 2.0);
+        looks("42 colourShare", x -> x.colourShare(), 0.0f);
+        looks("43 isConsistent", x -> x.isConsistent(), true);
     }
 }

@@ -465,6 +465,12 @@ public final class PrintersEdgesTest {
         EDGES.due("15 quotaOf, and no colour page", used(2, false), x -> x.quotaOf(0, true), 2);
         EDGES.due("15 quotaOf, the last colour page came out", used(2, true), x -> x.quotaOf(0, true), 0);
         EDGES.due("15 quotaOf, and no mono page", used(2, true), x -> x.quotaOf(0, false), 2);
+        for (int user = 0; user < 3; user++) {
+            int asked = user;
+            EDGES.due("15 quotaOf, after user 1's job, user " + user, Farms.after(Farms.with(3, 1, 0),
+                x -> x.release(x.submit(1, 4, 1, 'a', false, false), 0)), x -> x.quotaOf(asked, false),
+                user == 1 ? 97 : 100 + user);
+        }
         EDGES.due("15 quotaOf, one page is left", used(3, false), x -> x.quotaOf(0, false), 1);
         EDGES.due("15 quotaOf, cancel gives nothing back", used(1, false), x -> {
             x.cancel(0);
